@@ -2,8 +2,10 @@ import java.util.Random;
 
 /** Long runs of mixed calls, on the class and on the plain model: all answers must be the same. */
 public final class ModelTest {
-    private static final int RUNS = 1500;
-    private static final int CALLS = 500;
+    private static final int RUNS = 6000;
+    /** An object is promised to answer for so many calls. */
+    private static final int CALLS = 512;
+    private static final int LONGEST_STEP = 64;
 
     private final Due due = new Due("ModelTest");
     private final Random random;
@@ -34,14 +36,11 @@ public final class ModelTest {
         for (int p = 0; p < 10; p++) {
             same("kind", x.kind(p, p % 4), m.kind(p, p % 4));
         }
-        for (call = 0; call < CALLS; call++) {
+        while (call < CALLS - LONGEST_STEP && !due.hasWrong()) {
             step();
-            if (due.hasWrong()) {
-                return;
-            }
-            if (call % 50 == 49) {
-                compareAll();
-            }
+        }
+        while (call < CALLS && !due.hasWrong()) {
+            look();
         }
     }
 
@@ -64,6 +63,7 @@ public final class ModelTest {
             spoil();
         } else if (n < 86) {
             boolean may = random.nextInt(4) != 0;
+            call++;
             x.reports(may);
             m.reports(may);
         } else if (n < 88) {
@@ -95,12 +95,24 @@ public final class ModelTest {
         int k = random.nextBoolean() ? 10 : some(35);
         int mask = random.nextInt(6) == 0 ? some(256) : 1 << random.nextInt(8);
         same("poke(" + i + ", " + k + ", " + mask + ")", x.poke(i, k, mask), m.poke(i, k, mask));
-        if (style == 2 && m.at(i, 0) != PointReports.BAD) {
-            int[] before = Wire.frame(x, i);
-            Wire.seal(x, i);
-            int[] after = Wire.frame(x, i);
-            for (int b = 0; b < before.length; b++) {
-                m.poke(i, b, before[b] ^ after[b]);
+        if (style == 2) {
+            seal(i);
+        }
+    }
+
+    private void seal(int i) {
+        int length = 0;
+        while (m.at(i, length) != PointReports.BAD) {
+            length++;
+        }
+        int[] has = new int[length];
+        for (int k = 0; k < length; k++) {
+            has[k] = m.at(i, k);
+        }
+        int[] gets = length == 0 ? has : Wire.sealed(has);
+        for (int k = 0; k < length; k++) {
+            if (has[k] != gets[k]) {
+                same("poke to seal", x.poke(i, k, has[k] ^ gets[k]), m.poke(i, k, has[k] ^ gets[k]));
             }
         }
     }
@@ -175,33 +187,30 @@ public final class ModelTest {
     private void look() {
         int what = some(4);
         int k = some(8);
-        same("event", x.event(1 + k % 3, k, what), m.event(1 + k % 3, k, what));
-        same("taken", x.taken(k * 30, what), m.taken(k * 30, what));
-        same("view", x.view(k, what), m.view(k, what));
-        same("count(" + k + ")", x.count(k), m.count(k));
-        same("at", x.at(k, k + what), m.at(k, k + what));
-    }
-
-    private void compareAll() {
-        same("flying()", x.flying(), m.flying());
-        for (int what = -1; what <= 12; what++) {
-            same("count(" + what + ")", x.count(what), m.count(what));
-        }
-        for (int what = -1; what <= 4; what++) {
-            for (int p = -1; p <= 10; p++) {
+        switch (random.nextInt(6)) {
+            case 0:
+                int c = 1 + random.nextInt(3);
+                same("event(" + c + ", " + k + ", " + what + ")", x.event(c, k, what), m.event(c, k, what));
+                break;
+            case 1:
+                int n = some(Math.max(1, Math.min(m.count(1), 200)));
+                same("taken(" + n + ", " + what + ")", x.taken(n, what), m.taken(n, what));
+                break;
+            case 2:
+                int p = some(10);
                 same("view(" + p + ", " + what + ")", x.view(p, what), m.view(p, what));
-                for (int c = -1; c <= 4; c++) {
-                    same("event(" + c + ", " + p + ", " + what + ")", x.event(c, p, what), m.event(c, p, what));
-                }
-            }
-            for (int k = -1; k <= 201; k++) {
-                same("taken(" + k + ", " + what + ")", x.taken(k, what), m.taken(k, what));
-            }
-        }
-        for (int i = -1; i <= 41; i++) {
-            for (int k = -1; k <= 36; k++) {
-                same("at(" + i + ", " + k + ")", x.at(i, k), m.at(i, k));
-            }
+                break;
+            case 3:
+                int i = some(Math.max(1, m.flying()));
+                int b = some(35);
+                same("at(" + i + ", " + b + ")", x.at(i, b), m.at(i, b));
+                break;
+            case 4:
+                same("flying()", x.flying(), m.flying());
+                break;
+            default:
+                int of = some(12);
+                same("count(" + of + ")", x.count(of), m.count(of));
         }
     }
 
@@ -215,10 +224,12 @@ public final class ModelTest {
     }
 
     private void same(String what, int got, int want) {
+        call++;
         due.is("run " + run + ", call " + call + ": " + what, got, want);
     }
 
     private void same(String what, boolean got, boolean want) {
+        call++;
         due.is("run " + run + ", call " + call + ": " + what, got, want);
     }
 }

@@ -62,25 +62,38 @@ final class Wire {
         return java.util.Arrays.copyOf(all, length);
     }
 
-    static void write(PointReports x, int i, int k, int b) {
-        if (x.at(i, k) != b) {
-            x.poke(i, k, x.at(i, k) ^ b);
-        }
-    }
-
-    /** Makes all checks of a frame right again after it was written into. */
-    static void seal(PointReports x, int i) {
-        int[] f = frame(x, i);
-        writeCheck(x, i, f, 0, 8);
+    /** The same bytes with all checks made right. */
+    static int[] sealed(int[] bytes) {
+        int[] f = bytes.clone();
+        putCheck(f, 0, 8);
         for (int block = 10; block < f.length; block += 18) {
-            writeCheck(x, i, f, block, Math.min(16, f.length - 2 - block));
+            putCheck(f, block, Math.min(16, f.length - 2 - block));
+        }
+        return f;
+    }
+
+    private static void putCheck(int[] f, int from, int many) {
+        int c = check(f, from, many);
+        f[from + many] = c & 255;
+        f[from + many + 1] = c >> 8;
+    }
+
+    /** Makes frame i, which has these bytes, have others: with a poke for each that is not the same. */
+    static void rewrite(PointReports x, int i, int[] has, int[] gets) {
+        for (int k = 0; k < has.length; k++) {
+            if (has[k] != gets[k]) {
+                x.poke(i, k, has[k] ^ gets[k]);
+            }
         }
     }
 
-    private static void writeCheck(PointReports x, int i, int[] f, int from, int many) {
-        int c = check(f, from, many);
-        write(x, i, from + many, c & 255);
-        write(x, i, from + many + 1, c >> 8);
+    /** Writes one byte of frame i and makes its checks right: the frame's bytes then. */
+    static int[] write(PointReports x, int i, int[] has, int k, int b) {
+        int[] gets = has.clone();
+        gets[k] = b;
+        gets = sealed(gets);
+        rewrite(x, i, has, gets);
+        return gets;
     }
 
     static boolean inject(PointReports x, int side, int... bytes) {
@@ -92,14 +105,9 @@ final class Wire {
 
     /** Brings frame 0 until nothing is in flight. */
     static void bringAll(PointReports x) {
-        for (int n = 0; n < 500 && x.flying() > 0; n++) {
-            x.bring(0);
-        }
-    }
-
-    static void loseAll(PointReports x) {
-        for (int n = 0; n < 500 && x.flying() > 0; n++) {
-            x.lose(0);
+        int left = 1;
+        for (int n = 0; n < 500 && left > 0; n++) {
+            left = x.bring(0);
         }
     }
 
