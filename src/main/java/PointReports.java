@@ -63,36 +63,36 @@ public final class PointReports {
     }
 
     public int bring(int i) {
-        if (!line.has(i)) {
+        // Out of flight first: what its coming sends must find its place free.
+        Frame frame = line.takeOut(i);
+        if (frame == null) {
             return BAD;
         }
-        // Out of flight first: what its coming sends must find its place free.
-        deliver(line.takeOut(i));
+        deliver(frame);
         return line.size();
     }
 
     public int twice(int i) {
-        if (!line.has(i)) {
+        Frame frame = line.frame(i);
+        if (frame == null) {
             return BAD;
         }
-        deliver(line.frame(i));
+        deliver(frame);
         return line.size();
     }
 
     public int lose(int i) {
-        if (!line.has(i)) {
-            return BAD;
-        }
-        line.takeOut(i);
-        return line.size();
+        return line.takeOut(i) == null ? BAD : line.size();
     }
 
     public boolean poke(int i, int k, int mask) {
-        return line.has(i) && mask >= 1 && mask <= 255 && line.frame(i).spoil(k, mask);
+        Frame frame = line.frame(i);
+        return frame != null && mask >= 1 && mask <= 255 && frame.spoil(k, mask);
     }
 
     public int at(int i, int k) {
-        return line.has(i) ? line.frame(i).get(k) : BAD;
+        Frame frame = line.frame(i);
+        return frame == null ? BAD : frame.get(k);
     }
 
     public int flying() {
@@ -334,18 +334,17 @@ public final class PointReports {
             return inFlight;
         }
 
-        boolean has(int i) {
-            return i >= 0 && i < inFlight;
-        }
-
-        /** Only for an i that it has. */
+        /** Null: none such. */
         Frame frame(int i) {
-            return frames[i];
+            return i < 0 || i >= inFlight ? null : frames[i];
         }
 
-        /** Only for an i that it has; the frame keeps its bytes until a new one is launched. */
+        /** The frame keeps its bytes until another one is launched. Null: none such. */
         Frame takeOut(int i) {
-            Frame out = frames[i];
+            Frame out = frame(i);
+            if (out == null) {
+                return null;
+            }
             inFlight--;
             for (int k = i; k < inFlight; k++) {
                 frames[k] = frames[k + 1];
@@ -504,7 +503,7 @@ public final class PointReports {
         /** Puts a group of at most so many events into a fragment, for which they wait then: how many. */
         int putGroup(Bytes out, int cls, int most) {
             int many = Math.min(size, most);
-            if (many == 0) {
+            if (many <= 0) {
                 return 0;
             }
             out.add(Group.EVENTS);

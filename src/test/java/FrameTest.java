@@ -43,6 +43,25 @@ public final class FrameTest {
         int[] f = Wire.frame(y, 1);
         due.is("16 carried bytes are one block", f.length, 10 + 16 + 2);
         due.row("and its check is right", f, Wire.sealed(f));
+        Wire.bringAll(y);
+        due.is("16 carried bytes come", y.count(1), 4);
+        y.reports(false);
+        Wire.changes(y, 0, 2, 40);
+        y.reports(true);
+        y.tick();
+        f = Wire.frame(y, 1);
+        due.is("2 carried bytes, with one of the fragment", f.length, 10 + 2 + 2);
+        Wire.bringAll(y);
+        due.is("2 carried bytes come", y.view(0, 0), 41);
+        y.reports(false);
+        Wire.changes(y, 0, 7, 50);
+        y.reports(true);
+        y.tick();
+        f = Wire.frame(y, 2);
+        due.is("17 carried bytes are two blocks", f.length, 10 + 16 + 2 + 1 + 2);
+        due.row("and their checks are right", f, Wire.sealed(f));
+        Wire.bringAll(y);
+        due.is("17 carried bytes come", y.view(0, 0), 56);
     }
 
     private static void everyByteCounts(Due due) {

@@ -84,6 +84,8 @@ public final class MasterTest {
             32, 3, 1, 1, 1, 0, 9, 0, 0, 0, 30, 2, 1, 1, 2, 0));
         due.is("view(1, 0), what is so is later", x.view(1, 0), 2);
         due.is("view(1, 1)", x.view(1, 1), 9);
+        // The document does not say that a group must have something in it.
+        due.yes("groups of none", Wire.inject(x, 0, 208, 130, 0, 0, 32, 1, 0, 30, 2, 0));
     }
 
     private static void dropped(Due due) {

@@ -41,19 +41,21 @@ public final class Promise05Test {
         PointReports x = Wire.threeClasses();
         x.reports(true);
         x.change(0, 7);
-        int[] sent = {0, 1, 1, 1, 1, 1, 2, 2, 2, 2, 2, 3, 3, 3, 3, 3, 4, 4, 4, 4, 4, 4, 5};
-        for (int t = 1; t < sent.length; t++) {
+        int sent = 0;
+        for (int t = 1; t <= 60; t++) {
+            int turn = (t - 1) % 21;
+            sent += turn < 20 && turn % 5 == 0 ? 1 : 0;
             x.tick();
-            due.is("flying() at " + t, x.flying(), sent[t]);
-            due.is("count(10) at " + t, x.count(10), t == 21 ? 0 : 1);
-            due.is("count(6) at " + t, x.count(6), t == 22 ? 2 : 1);
+            due.is("flying() at " + t, x.flying(), sent);
+            due.is("count(10) at " + t, x.count(10), turn == 20 ? 0 : 1);
+            due.is("event(1, 0, 3) at " + t, x.event(1, 0, 3), turn == 20 ? 0 : 1);
+            due.is("count(6) at " + t, x.count(6), 1 + (t - 1) / 21);
         }
-        for (int i = 0; i < 5; i++) {
+        for (int i = 0; i < 12; i++) {
             due.is("segment's first byte " + i, x.at(i, 10), 192 + i);
         }
         due.is("SEQ sent again", x.at(3, 11), 192 + 32 + 16);
         due.is("SEQ of the new report", x.at(4, 11), 192 + 32 + 16 + 1);
-        due.is("event(1, 0, 3)", x.event(1, 0, 3), 1);
     }
 
     private static void asItWas(Due due) {
@@ -94,13 +96,7 @@ public final class Promise05Test {
     }
 
     private static void sixteenAtMost(Due due) {
-        PointReports x = Wire.threeClasses();
-        for (int n = 0; n < 8; n++) {
-            x.tick();
-            x.change(0, n);
-            x.change(1, n);
-            x.change(2, n);
-        }
+        PointReports x = Wire.eightOfEach();
         x.reports(true);
         x.tick();
         int[] report = Wire.fragment(x, 0, x.flying());

@@ -29,6 +29,7 @@ public final class Promise17Test {
         due.row("event 3 is the first now", event(x, 3, 0), 2, 7, 3, 0);
         due.is("event(3, 1, 0)", x.event(3, 1, 0), -1);
         lostWhileTheyWait(due);
+        lostWhileOthersWait(due);
         due.end();
     }
 
@@ -48,5 +49,21 @@ public final class Promise17Test {
         due.row("only those that waited are gone", event(x, 1, 0), 0, 20, 4, 0);
         due.is("event(1, 6, 1)", x.event(1, 6, 1), 26);
         due.is("event(1, 7, 1)", x.event(1, 7, 1), -1);
+    }
+
+    private static void lostWhileOthersWait(Due due) {
+        PointReports x = Wire.threeClasses();
+        x.kind(9, 1);
+        x.change(1, 5);
+        x.poll(4);
+        x.bring(0);
+        Wire.changes(x, 0, 4, 10);
+        Wire.changes(x, 9, 6, 20);
+        due.row("the first does not wait", event(x, 1, 0), 0, 12, 3, 0);
+        Wire.bringAll(x);
+        due.is("the other class is told", x.event(2, 0, 0), -1);
+        due.row("this one stays", event(x, 1, 0), 0, 12, 3, 0);
+        due.row("points move with their events", event(x, 1, 2), 9, 20, 5, 0);
+        due.row("the last", event(x, 1, 7), 9, 25, 10, 0);
     }
 }

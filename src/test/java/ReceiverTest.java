@@ -11,6 +11,7 @@ public final class ReceiverTest {
         sidesAreApart(due);
         shortOnesJoin(due);
         atMost400(due);
+        not401(due);
         due.end();
     }
 
@@ -159,5 +160,25 @@ public final class ReceiverTest {
             x.twice(0);
             due.is("nothing is open behind it", x.count(4), 1 - extra);
         }
+    }
+
+    /** 19 segments of 20 bytes, then some of 7. */
+    private static void not401(Due due) {
+        PointReports x = inThree();
+        x.bring(0);
+        int[] f = Wire.frame(x, 0);
+        for (int n = 1; n < 19; n++) {
+            f = Wire.write(x, 0, f, 10, n);
+            x.twice(0);
+        }
+        f = Wire.frame(x, 1);
+        for (int n = 19; n < 21; n++) {
+            f = Wire.write(x, 1, f, 10, n);
+            x.twice(1);
+        }
+        Wire.write(x, 1, f, 10, 128 + 21);
+        x.twice(1);
+        due.is("no fragment of 401", x.count(4), 0);
+        due.is("count(3)", x.count(3), 0);
     }
 }

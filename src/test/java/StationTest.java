@@ -47,13 +47,7 @@ public final class StationTest {
     }
 
     private static void sixteenAtMost(Due due) {
-        PointReports x = Wire.threeClasses();
-        for (int n = 0; n < 8; n++) {
-            x.tick();
-            x.change(0, n);
-            x.change(1, n);
-            x.change(2, n);
-        }
+        PointReports x = Wire.eightOfEach();
         Wire.inject(x, 1, 192, 1, 60, 4, 6, 60, 3, 6, 60, 2, 6, 60, 1, 6);
         int[] response = Wire.fragment(x, 0, x.flying());
         due.is("length", response.length, 4 + 2 * (3 + 8 * 7) + 33);

@@ -29,13 +29,12 @@ final class Wire {
     }
 
     static int[] frame(PointReports x, int i) {
-        int length = 0;
-        while (length < 300 && x.at(i, length) != PointReports.BAD) {
-            length++;
-        }
-        int[] bytes = new int[length];
-        for (int k = 0; k < length; k++) {
+        int[] bytes = new int[300];
+        for (int k = 0; k < bytes.length; k++) {
             bytes[k] = x.at(i, k);
+            if (bytes[k] == PointReports.BAD) {
+                return java.util.Arrays.copyOf(bytes, k);
+            }
         }
         return bytes;
     }
@@ -123,6 +122,18 @@ final class Wire {
             x.tick();
             x.change(point, firstValue + n);
         }
+    }
+
+    /** Points 0, 1, 2 with the classes 1, 2, 3, and eight events of each. */
+    static PointReports eightOfEach() {
+        PointReports x = threeClasses();
+        for (int n = 0; n < 8; n++) {
+            x.tick();
+            x.change(0, n);
+            x.change(1, n);
+            x.change(2, n);
+        }
+        return x;
     }
 
     /** Points 0, 1, 2 with the classes 1, 2, 3. */
