@@ -1,6 +1,7 @@
 /** Compares answers with those that are due, prints each that is not, and ends the test. */
 final class Due {
     private final String test;
+    private String sentence = "";
     private int asked;
     private int wrong;
 
@@ -8,11 +9,16 @@ final class Due {
         this.test = test;
     }
 
+    /** What follows tests these words of the document, which stand before each wrong answer. */
+    void says(String words) {
+        sentence = "'" + words + "': ";
+    }
+
     void is(String call, long got, long want) {
         asked++;
         if (got != want) {
             wrong++;
-            System.out.println(test + ": " + call + " answered " + got + ", due is " + want);
+            System.out.println(test + ": " + sentence + call + " answered " + got + ", due is " + want);
         }
     }
 
